@@ -219,7 +219,7 @@ public final class SleepingJudge {
             return BAD;
         }
         int finding = told.takeHums(rows, row, i, n);
-        return finding != 0 ? found(finding) : fine(told.lastDream(NONE));
+        return finding != 0 ? found(finding) : fine(told.lastDream(Told.ALL_HUMMED));
     }
 
     public int dreams(int n, int what) {
@@ -1005,7 +1005,7 @@ public final class SleepingJudge {
         }
     }
 
-    /** The latest ACTS, each kept as all that it could change stood ahead of it; of more than 24 the oldest is written over. */
+    /** The latest ACTS, each kept as all that it could change stood ahead of it; the oldest is written over. */
     private static final class Acts {
         static final int MOST = 24;
 
@@ -1037,8 +1037,9 @@ public final class SleepingJudge {
         static final int NOWHERE = -1;
 
         final Court court;
-        final boolean[] here = new boolean[MOST_DREAMS];
-        final boolean[] behind = new boolean[MOST_DREAMS];
+        // 1 for a DREAM that is among these, else 0.
+        final int[] here = new int[MOST_DREAMS];
+        final int[] behind = new int[MOST_DREAMS];
         // DREAMS met, in the order of the first shortest rows to them: HUMS are tried by their numbers.
         final int[] met = new int[MOST_DREAMS];
         final int[] metFrom = new int[MOST_DREAMS];
@@ -1054,7 +1055,7 @@ public final class SleepingJudge {
             goBehind(n);
             int many = 0;
             for (int dream = 0; dream < MOST_DREAMS; dream++) {
-                many += here[dream] ? 1 : 0;
+                many += here[dream];
             }
             return many;
         }
@@ -1063,7 +1064,7 @@ public final class SleepingJudge {
             goBehind(n);
             int all = court.dreamCount() - 1;
             for (int dream = 0; dream < MOST_DREAMS; dream++) {
-                all &= here[dream] ? dream : -1;
+                all &= here[dream] != 0 ? dream : -1;
             }
             return all;
         }
@@ -1072,7 +1073,7 @@ public final class SleepingJudge {
             goBehind(n);
             int any = 0;
             for (int dream = 0; dream < MOST_DREAMS; dream++) {
-                any |= here[dream] ? dream : 0;
+                any |= here[dream] != 0 ? dream : 0;
             }
             return any;
         }
@@ -1080,7 +1081,7 @@ public final class SleepingJudge {
         int leastBehind(int n) {
             goBehind(n);
             for (int dream = 0; dream < MOST_DREAMS; dream++) {
-                if (here[dream]) {
+                if (here[dream] != 0) {
                     return dream;
                 }
             }
@@ -1090,7 +1091,7 @@ public final class SleepingJudge {
         int greatestBehind(int n) {
             goBehind(n);
             for (int dream = MOST_DREAMS - 1; dream >= 0; dream--) {
-                if (here[dream]) {
+                if (here[dream] != 0) {
                     return dream;
                 }
             }
@@ -1098,12 +1099,12 @@ public final class SleepingJudge {
         }
 
         private void goBehind(int n) {
-            Arrays.fill(here, false);
-            here[court.dream] = true;
+            Arrays.fill(here, 0);
+            here[court.dream] = 1;
             for (int k = 0; k < n; k++) {
-                Arrays.fill(behind, false);
+                Arrays.fill(behind, 0);
                 for (int dream = 0; dream < court.dreamCount(); dream++) {
-                    if (here[dream]) {
+                    if (here[dream] != 0) {
                         markBehind(dream);
                     }
                 }
@@ -1113,12 +1114,12 @@ public final class SleepingJudge {
 
         private void markBehind(int dream) {
             for (int hum = 0; hum < court.hums; hum++) {
-                behind[court.by(hum, dream)] = true;
+                behind[court.by(hum, dream)] = 1;
             }
         }
 
         void goWithin(int n) {
-            Arrays.fill(here, false);
+            Arrays.fill(here, 0);
             length = 0;
             meet(court.dream, NOWHERE, NOWHERE, 0);
             for (int at = 0; at < MOST_DREAMS && at < length && metDepth[at] < n; at++) {
@@ -1129,8 +1130,8 @@ public final class SleepingJudge {
         }
 
         private void meet(int dream, int from, int hum, int depth) {
-            if (!here[dream] && length < MOST_DREAMS) {
-                here[dream] = true;
+            if (here[dream] == 0 && length < MOST_DREAMS) {
+                here[dream] = 1;
                 met[length] = dream;
                 metFrom[length] = from;
                 metBy[length] = hum;
@@ -1245,7 +1246,7 @@ public final class SleepingJudge {
 
     /** HUMS, and DREAMS behind them, that rows tell. */
     private static final class Told {
-        static final int NO_HUM = -1;
+        static final int NO_HUM = -1, ALL_HUMMED = -1;
 
         final Court court;
         final int[] hums = new int[MOST_TOLD];
@@ -1288,7 +1289,7 @@ public final class SleepingJudge {
         }
 
         int placesNotHummed(int last) {
-            int bits = lastDream(NONE) == last ? AS_IT_IS : 0;
+            int bits = lastDream(ALL_HUMMED) == last ? AS_IT_IS : 0;
             for (int k = 0; k < length; k++) {
                 bits |= lastDream(k) == last ? 1 << k : 0;
             }

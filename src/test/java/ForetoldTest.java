@@ -96,6 +96,20 @@ public final class ForetoldTest {
         SleepingJudge z = Check.judgeOf("j3,0,1;d0;t1,0;");
         check.due("exactly one", z.dreams(1, 0), 1);
         check.due("not none", z.dreams(1, 3), 3);
+        z.forget(0);
+        check.due("from now on", z.dreams(1, 0), 1);
+        check.due("the least from now on", z.dreams(1, 3), 2);
+        SleepingJudge w = Check.judgeOf("j8,0,1;d0;r0,0;c7,0;c1,1;c3,1;c5,1;t0,0;");
+        check.due("nothing dreamt is the least", w.dreams(1, 3), 0);
+        check.due("in all", w.dreams(1, 1), 0);
+        check.due("the greatest", w.dreams(1, 4), 129);
+        check.due("all THINGS", w.dreams(8, 4), 255);
+        check.due("all THINGS in any", w.dreams(8, 2), 255);
+        w.forget(0);
+        check.due("how many from nothing", w.dreams(0, 0), 1);
+        check.due("in any from nothing", w.dreams(0, 2), 0);
+        check.due("the greatest from nothing", w.dreams(0, 4), 0);
+        check.due("how many behind one from nothing", w.dreams(1, 0), 6);
     }
 
     private static void leastToThings() {
@@ -191,6 +205,8 @@ public final class ForetoldTest {
         check.due("of OPEN ones: 0th", x.order(0), 0);
         check.due("of OPEN ones: 1st", x.order(1), 1);
         check.due("of OPEN ones: 2nd", x.order(2), NONE);
+        x.hear(0);
+        check.due("one is OPEN", x.first(), 1);
         SleepingJudge y = Check.judgeOf("j3,0,1;d0;t1,0;");
         check.due("no CASES: FREE", y.order(-1), 0);
         check.due("no CASES: GUILTY", y.order(-2), 0);
@@ -204,6 +220,10 @@ public final class ForetoldTest {
         check.due("fewest GUILTY", x.order(-2), 0);
         check.due("order begins", x.order(0), 1);
         check.due("first, GUILTY or not", x.first(), 0);
+        x.learn(1, 3);
+        check.due("all GUILTY: FREE", x.order(-1), 0);
+        check.due("all GUILTY, or OPEN", x.order(-2), 1);
+        check.due("all GUILTY: order begins", x.order(0), 1);
         x.hear(0);
         x.hear(1);
         check.due("none is OPEN", x.first(), NONE);
@@ -223,6 +243,9 @@ public final class ForetoldTest {
         y.hear(0);
         y.hear(1);
         check.due("OPEN or not", y.clashes(0), 1);
+        SleepingJudge w = Check.judgeOf("j8,0,1;d0;t0,0;v0,0,1;v0,2,3;v0,4,5;v0,6,7;v0,5,0;");
+        check.due("five CASES", w.clashes(0), 2);
+        check.due("0 and 4", w.clashes(1), 4);
         SleepingJudge z = Check.judgeOf("j4,0,1;d0;t0,0;v0,2,3;v0,2,3;");
         check.due("alike ones do not", z.clashes(0), 0);
         check.due("none", z.clashes(1), NONE);
@@ -286,7 +309,14 @@ public final class ForetoldTest {
         check.due("the least", x.began(1, 0, 0, 1, 1, 3), 9);
         check.due("none", x.began(0, 0, 0, 1, 0, 1), 0);
         check.due("no least", x.began(1, 0, 0, 1, 0, 1), NONE);
+        Check.fill(x, 2, 0);
+        Check.fill(x, 3, 2);
+        check.due("nothing dreamt, or 1", x.began(0, 2, 0, 3, 0, 1), 2);
+        check.due("nothing is the least", x.began(1, 2, 0, 3, 0, 1), 0);
+        x.drop(2);
         check.due("a DREAM of 64 more", x.set(1, 1, 64 + 11) + x.began(0, 0, 0, 1, 1, 1), 75);
+        check.due("64 itself is no DREAM", x.set(1, 1, 64 + 2) + x.began(0, 0, 0, 1, 1, 1), 66);
+        check.due("64 is no least", x.began(1, 0, 0, 1, 1, 1), NONE);
         check.due("what 2", x.began(2, 0, 0, 1, 1, 3), BAD);
         check.due("what -1", x.began(-1, 0, 0, 1, 1, 3), BAD);
         check.due("no ROW", x.began(0, -1, 0, 1, 1, 3), BAD);
@@ -371,6 +401,12 @@ public final class ForetoldTest {
         x.hear(2);
         check.due("those FREE ahead count, too", x.drawn(0, 1, 0), 1);
         check.due("and are not HEARD", x.drawn(6, 1, 0), 1);
+        // Of one HUM and one CASE: the sixth X leaves 0 by 4, the CASE is HEARD, FREE, and the DREAM wears.
+        SleepingJudge z = Check.judgeOf("j3,1,1;d0,1;t2,0;v0,1,0;");
+        z.forget(1);
+        check.due("ahead of the hearing", z.drawn(5, 1, 1), 5);
+        check.due("behind it", z.drawn(6, 1, 1), 1);
+        check.due("FREE by it", z.drawn(6, 1, 0), 1);
         SleepingJudge y = Check.judgeOf("j3,0,1;d0;t1,0;t2,0;");
         // 16807 leaves 1 by 2; the sixth X, 470211272, leaves 0 by 4, and there are no CASES.
         check.due("no CASES", y.drawn(1, 1, 1), 5);

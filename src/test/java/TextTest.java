@@ -16,6 +16,8 @@ public final class TextTest {
         faultsOfTokens();
         noRoom();
         aFaultLeavesAll();
+        nothingStaysOnTheTape();
+        theLongestTape();
         check.end();
     }
 
@@ -200,5 +202,31 @@ public final class TextTest {
         check.due("the fault is the latest yet", x.fault(), 2);
         Check.read(x, "k");
         check.due("another", x.fault(), 1);
+    }
+
+    private static void nothingStaysOnTheTape() {
+        SleepingJudge x = new SleepingJudge();
+        check.due("long", Check.read(x, ONE + "t1,1;v0,0,1;v0,0,1;"), 2);
+        check.due("the same, cut within a hum", Check.read(x, ONE + "t1,1"), -1000100 - 21);
+        check.due("the same, cut within a number", Check.read(x, ONE + "t1,"), -1000100 - 20);
+        check.due("the same, cut behind a hum", Check.read(x, ONE), 1);
+        check.due("HUMS", x.count(2), 1);
+        check.due("CASES", x.count(3), 0);
+        check.due("a number with another behind it", Check.read(x, "j40000,1,1;"), -1000101);
+        check.due("the same, cut", Check.read(x, "j4"), -1000102);
+        Check.read(x, "j3,1,1;d0,1,2;t0,0;");
+        Check.read(x, "j3,1,1;d1;t0,0;");
+        check.due("the DREAM is told anew", x.stand(0), 2);
+    }
+
+    private static void theLongestTape() {
+        String dreams = "j8,8,9;d" + "0,".repeat(53) + "7;t0,1;";
+        check.due("as long as this", dreams.length(), 121);
+        SleepingJudge x = new SleepingJudge();
+        check.due("cut at 120", Check.read(x, dreams), -1000100 - 120);
+        check.due("fault", x.fault(), 1);
+        check.due("120", Check.read(x, dreams.replace("d0,", "d").replace("7;t", "07;t")), 1);
+        check.due("DREAM", x.stand(0), 129);
+        check.due("a number at the end", Check.read(x, dreams.replace(";t0,1;", ",0,00")), -1000100 - 120);
     }
 }
