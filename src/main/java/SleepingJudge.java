@@ -298,7 +298,7 @@ public final class SleepingJudge {
         if (!isOneOfTwo(what)) {
             return BAD;
         }
-        return what == 0 ? now.howManyClash() : now.firstClash();
+        return now.pairs(false, what);
     }
 
     public int deaf() {
@@ -312,7 +312,7 @@ public final class SleepingJudge {
         if (!isOneOfTwo(what)) {
             return BAD;
         }
-        return what == 0 ? now.howManySame() : now.firstSame();
+        return now.pairs(true, what);
     }
 
     public int who(int hum, int which, int row, int i, int other, int j, int n) {
@@ -910,25 +910,21 @@ public final class SleepingJudge {
             return bits;
         }
 
-        int howManyClash() {
+        /** Pairs of HUMS that do the same, or of CASES that clash: how many (what = 0), or the first (1). */
+        int pairs(boolean ofHums, int what) {
+            int all = ofHums ? hums : cases;
             int many = 0;
-            for (int one = 0; one < cases; one++) {
-                for (int other = one + 1; other < cases; other++) {
-                    many += clash(one, other) ? 1 : 0;
-                }
-            }
-            return many;
-        }
-
-        int firstClash() {
-            for (int one = 0; one < cases; one++) {
-                for (int other = one + 1; other < cases; other++) {
-                    if (clash(one, other)) {
-                        return 10 * one + other;
+            for (int one = 0; one < all; one++) {
+                for (int other = one + 1; other < all; other++) {
+                    if (ofHums ? doTheSame(one, other) : clash(one, other)) {
+                        if (what == 1) {
+                            return 10 * one + other;
+                        }
+                        many++;
                     }
                 }
             }
-            return NONE;
+            return what == 1 ? NONE : many;
         }
 
         private boolean clash(int one, int other) {
@@ -941,27 +937,6 @@ public final class SleepingJudge {
                 bits |= by(hum, dream) == dream ? 1 << hum : 0;
             }
             return bits;
-        }
-
-        int howManySame() {
-            int many = 0;
-            for (int one = 0; one < hums; one++) {
-                for (int other = one + 1; other < hums; other++) {
-                    many += doTheSame(one, other) ? 1 : 0;
-                }
-            }
-            return many;
-        }
-
-        int firstSame() {
-            for (int one = 0; one < hums; one++) {
-                for (int other = one + 1; other < hums; other++) {
-                    if (doTheSame(one, other)) {
-                        return 10 * one + other;
-                    }
-                }
-            }
-            return NONE;
         }
 
         private boolean doTheSame(int one, int other) {
