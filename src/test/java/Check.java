@@ -1,3 +1,8 @@
+import java.lang.reflect.Method;
+import java.lang.reflect.Modifier;
+import java.util.HashMap;
+import java.util.Map;
+
 /** Counts answers that are not the due ones, and tells them. */
 final class Check {
     private int asked = 0;
@@ -53,5 +58,15 @@ final class Check {
         for (int k = 0; k < items.length; k++) {
             judge.set(row, k, items[k]);
         }
+    }
+
+    static Map<String, Method> methodsOf(Class<?> type) {
+        Map<String, Method> all = new HashMap<>();
+        for (Method method : type.getDeclaredMethods()) {
+            if (Modifier.isPublic(method.getModifiers())) {
+                all.put(method.getName(), method);
+            }
+        }
+        return all;
     }
 }

@@ -1,7 +1,5 @@
 import java.lang.reflect.Method;
-import java.lang.reflect.Modifier;
 import java.util.ArrayList;
-import java.util.HashMap;
 import java.util.List;
 import java.util.Map;
 import java.util.Set;
@@ -34,8 +32,8 @@ final class Edges {
     private static final Set<String> ONLY_ASK = Set.of("fault", "ofHum", "ofCase", "stand", "sleep", "dreams", "least", "save",
         "can", "order", "first", "clashes", "deaf", "same", "who", "began", "snored", "gone", "drawn", "kind", "as", "trace",
         "count", "status");
-    private static final Map<String, Method> JUDGE = methodsOf(SleepingJudge.class);
-    private static final Map<String, Method> MODEL = methodsOf(NaiveJudge.class);
+    private static final Map<String, Method> JUDGE = Check.methodsOf(SleepingJudge.class);
+    private static final Map<String, Method> MODEL = Check.methodsOf(NaiveJudge.class);
 
     private record Call(String name, int[] numbers, long due) {
         boolean isRefused() {
@@ -73,16 +71,6 @@ final class Edges {
 
     private final Check check = new Check();
     private final Set<Integer> promised = new TreeSet<>();
-
-    private static Map<String, Method> methodsOf(Class<?> type) {
-        Map<String, Method> all = new HashMap<>();
-        for (Method method : type.getDeclaredMethods()) {
-            if (Modifier.isPublic(method.getModifiers())) {
-                all.put(method.getName(), method);
-            }
-        }
-        return all;
-    }
 
     void of(int promise, String sentence, String... lines) {
         promised.add(promise);

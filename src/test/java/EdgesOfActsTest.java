@@ -306,6 +306,9 @@ public final class EdgesOfActsTest {
             "stand(0) = 9", "stand(1) = 0");
         edges.of(9, "a hearing is undone, with NIGHT, DREAM and what was hummed", COURT, "hum(1) = 41", "hear(2) = 1", "stand(0) = 5",
             "undo() = 1", "stand(0) = 41", "stand(1) = 1", "count(4) = 0", "stand(2) = 7", "stand(3) = 0", "hear(2) = 1");
+        edges.of(9, "NIGHT is as it was ahead of any ACT", COURT, "hear(1) = 0", "hear(1) = 0", "hear(1) = 0", "undo() = 2", "count(4) = 2",
+            "hum(0) = 10", "undo() = 2", "count(4) = 2", "forget(3) = 0", "undo() = 2", "count(4) = 2", "undo() = 1", "count(4) = 1",
+            "undo() = 0", "count(4) = 0");
         edges.of(9, "a hearing that left a CASE OPEN is undone", COURT, "hear(1) = 0", "undo() = 0", "stand(0) = 9", "count(4) = 0");
         edges.of(9, "an appeal is undone: GUILTY again", APPEAL, "hear(0) = 2", "forget(0) = 2", "appeal(0) = 1", "undo() = 2",
             "ofCase(0, 3) = 2", "hear(0) = STATE", "appeal(0) = 1");

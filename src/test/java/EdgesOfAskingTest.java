@@ -53,7 +53,8 @@ public final class EdgesOfAskingTest {
     }
 
     private static void asksOfNumbers() {
-        edges.of(37, "ASKS are 0 and 1", COURT, "ask(0, 0) = 3", "ask(0, 1) = 2", "ask(0, 2) = BAD", "ask(0, -1) = BAD", "ask(0, MOST) = BAD",
+        edges.of(37, "ASKS are 0 and 1", COURT, "ask(0, 0) = 3", "ask(0, 1) = 2", "ask(0, 2) = BAD", "ask(0, -1) = BAD",
+            "ask(0, MOST) = BAD",
             "ask(0, LEAST) = BAD");
         edges.of(37, "HUMS are those told", COURT, "ask(4, 0) = -196", "ask(5, 0) = BAD", "ask(-1, 0) = BAD", "ask(MOST, 1) = BAD",
             "ask(LEAST, 1) = BAD");
@@ -63,7 +64,8 @@ public final class EdgesOfAskingTest {
     private static void sizesByBodies() {
         edges.of(37, "SIZE of a tune: 11, 10, and MARK anew", COURT, "ask(0, 0) = 3", "trace(0) = 11", "trace(1) = 10", "trace(2) = 21",
             "trace(3) = 20", "trace(4) = NONE");
-        edges.of(37, "SIZE of cheese: 0 less what 11 gives, with MARK of cheese", COURT, "ask(1, 0) = -11", "trace(0) = 12", "trace(1) = 11",
+        edges.of(37, "SIZE of cheese: 0 less what 11 gives, with MARK of cheese", COURT, "ask(1, 0) = -11", "trace(0) = 12",
+            "trace(1) = 11",
             "trace(2) = 10", "trace(3) = 24", "trace(4) = 21", "trace(5) = 20", "trace(6) = NONE");
         edges.of(37, "SIZE of steps: that of the nearest KIND, with MARK of steps", COURT, "ask(2, 0) = -992", "trace(0) = 11",
             "trace(1) = 10", "trace(2) = 22", "trace(3) = 21", "trace(4) = 20", "trace(5) = NONE");
@@ -78,7 +80,8 @@ public final class EdgesOfAskingTest {
         edges.of(37, "MARK of cheese: twice", COURT, "ask(1, 1) = 6", "trace(0) = 24", "trace(1) = 21", "trace(2) = 20", "trace(3) = NONE");
         edges.of(37, "MARK of steps: less 1000", COURT, "ask(2, 1) = -996", "trace(0) = 22", "trace(1) = 21", "trace(2) = 20",
             "trace(3) = NONE");
-        edges.of(37, "MARK of rain: less SIZE", COURT, "ask(3, 1) = 103", "trace(0) = 23", "trace(1) = 20", "trace(2) = 13", "trace(3) = 10",
+        edges.of(37, "MARK of rain: less SIZE", COURT, "ask(3, 1) = 103", "trace(0) = 23", "trace(1) = 20", "trace(2) = 13",
+            "trace(3) = 10",
             "trace(4) = NONE");
         edges.of(37, "MARK of a feather: that of the nearest KIND, with SIZE of a feather", COURT, "ask(4, 1) = 200", "trace(0) = 23",
             "trace(1) = 20", "trace(2) = 14", "trace(3) = 13", "trace(4) = 10", "trace(5) = NONE");
@@ -115,7 +118,8 @@ public final class EdgesOfAskingTest {
         edges.of(39, "what is 0 to 7", COURT, "ints 3: 1", "hear(1) = 0", "hum(0) = 10", "tape j4", "count(0) = 1", "count(1) = 6",
             "count(2) = 5", "count(3) = 3", "count(4) = 1", "count(5) = 10", "count(6) = 2", "count(7) = 2", "count(8) = BAD",
             "count(-1) = BAD", "count(MOST) = BAD", "count(LEAST) = BAD");
-        edges.of(39, "the least COURT", SMALL, "count(0) = 0", "count(1) = 3", "count(2) = 1", "count(3) = 0", "count(4) = 0", "count(5) = 1",
+        edges.of(39, "the least COURT", SMALL, "count(0) = 0", "count(1) = 3", "count(2) = 1", "count(3) = 0", "count(4) = 0",
+            "count(5) = 1",
             "count(6) = 0", "count(7) = 0");
         edges.of(39, "the greatest COURT", "court j8,8,9;d0,1,2,3,4,5,6,7;t0,0;t0,0;t0,0;t0,0;t0,0;t0,0;"
             + "v0,0,1;v0,0,1;v0,0,1;v0,0,1;v5,0,7; = 6", "count(1) = 8", "count(2) = 6", "count(3) = 5", "count(5) = 255");
@@ -128,7 +132,8 @@ public final class EdgesOfAskingTest {
     }
 
     private static void statusOfCallsWithRows() {
-        edges.of(40, "sleep: NULL, PLACE, KIND, and 0", COURT, "sleep(0, 0, 1) = NULL", "status() = 1", "ints 0: 0 5", "sleep(0, 2, 1) = PLACE",
+        edges.of(40, "sleep: NULL, PLACE, KIND, and 0", COURT, "sleep(0, 0, 1) = NULL", "status() = 1", "ints 0: 0 5",
+            "sleep(0, 2, 1) = PLACE",
             "status() = 2", "sleep(0, 1, 1) = KIND", "status() = 3", "sleep(0, 0, 13) = BAD", "status() = 3", "sleep(0, 0, 1) = 11",
             "status() = 0");
         edges.of(40, "who: NULL, PLACE, KIND, and 0", COURT, "who(0, 0, 0, 0, 0, 0, 1) = NULL", "status() = 1", "ints 0: 0 5",
@@ -141,14 +146,16 @@ public final class EdgesOfAskingTest {
         edges.of(40, "snored: NULL, PLACE, KIND, and 0", COURT, "snored(0, 0, 0, 1) = NULL", "status() = 1", "ints 0: 0 5",
             "snored(0, 0, 2, 1) = PLACE", "status() = 2", "snored(0, 0, 1, 1) = KIND", "status() = 3", "snored(64, 0, 0, 1) = BAD",
             "status() = 3", "snored(0, 0, 0, 1) = 0", "status() = 0");
-        edges.of(40, "STATE leaves it, of any call with a ROW", "drop(0) = NULL", "sleep(0, 0, 1) = STATE", "began(0, 0, 0, 0, 0, 1) = STATE",
+        edges.of(40, "STATE leaves it, of any call with a ROW", "drop(0) = NULL", "sleep(0, 0, 1) = STATE",
+            "began(0, 0, 0, 0, 0, 1) = STATE",
             "snored(0, 0, 0, 1) = STATE", "status() = 1", "row(0, 0, 1) = 1", "sleep(0, 0, 1) = STATE", "status() = 0");
     }
 
     private static void statusOfAs() {
         edges.of(40, "as: KIND, and 0, BAD leaves it", COURT, "as(0, 2) = KIND", "status() = 3", "as(0, 6) = BAD", "as(5, 0) = BAD",
             "status() = 3", "as(0, 1) = 0", "status() = 0", "as(5, 0) = BAD", "status() = 0");
-        edges.of(40, "FULL leaves it, and calls without a ROW", "drop(0) = NULL", "court j3,0,1;d0;t1,0; = 1", "hum(0) = 3", "hum(0) = FULL",
+        edges.of(40, "FULL leaves it, and calls without a ROW", "drop(0) = NULL", "court j3,0,1;d0;t1,0; = 1", "hum(0) = 3",
+            "hum(0) = FULL",
             "status() = 1", "kind(0) = 1", "ask(0, 0) = 3", "dreams(0, 0) = 1", "least(0, 0, -1) = 0", "order(-1) = 0", "first() = NONE",
             "same(0) = 0", "clashes(0) = 0", "drawn(1, 1, 0) = 0", "status() = 1");
         edges.of(40, "it outlasts another COURT, and asks change it not", "drop(0) = NULL", COURT, "status() = 1", "status() = 1");

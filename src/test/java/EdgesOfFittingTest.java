@@ -86,7 +86,8 @@ public final class EdgesOfFittingTest {
 
     private static void whoThatFits() {
         edges.of(28, "KINDS are bits 1 to 5: all of them, none", SMALL, "ints 0: 0", "ints 1: 3 1 7 0 2", "who(0, 0, 0, 0, 1, 0, 1) = 10",
-            "who(0, 0, 0, 0, 1, 1, 1) = 0", "who(0, 0, 0, 0, 1, 2, 1) = 4", "who(0, 0, 0, 0, 1, 3, 1) = 16", "who(0, 0, 0, 0, 1, 4, 1) = 32",
+            "who(0, 0, 0, 0, 1, 1, 1) = 0", "who(0, 0, 0, 0, 1, 2, 1) = 4", "who(0, 0, 0, 0, 1, 3, 1) = 16",
+            "who(0, 0, 0, 0, 1, 4, 1) = 32",
             LEFT, "ints 0: 0", "ints 1: 1", "who(1, 0, 0, 0, 1, 0, 1) = 62");
         edges.of(28, "BRINGS are THINGS, bits: of 3, of 8", SMALL, "ints 0: 0", "ints 1: 1 3 5 7", "who(0, 1, 0, 0, 1, 0, 1) = 1",
             "who(0, 1, 0, 0, 1, 1, 1) = 2", "who(0, 1, 0, 0, 1, 2, 1) = 4", "who(0, 1, 0, 0, 1, 3, 1) = 0",
@@ -133,7 +134,8 @@ public final class EdgesOfFittingTest {
     }
 
     private static void beganOfFindings() {
-        edges.of(29, "NULL, then PLACE of the HUMS' ROW", COURT, DREAMS, "began(0, 0, 0, 1, 0, 1) = NULL", "began(0, 0, -1, 2, 0, 1) = NULL",
+        edges.of(29, "NULL, then PLACE of the HUMS' ROW", COURT, DREAMS, "began(0, 0, 0, 1, 0, 1) = NULL",
+            "began(0, 0, -1, 2, 0, 1) = NULL",
             HUMS, "began(0, 0, -1, 1, 0, 1) = PLACE", "began(0, 0, 1, 1, 0, 3) = PLACE", "began(0, 0, 3, 1, 0, 1) = PLACE",
             "began(0, 0, MOST, 1, 0, 1) = PLACE", "began(0, 0, 3, 2, 0, 1) = PLACE");
         edges.of(29, "KIND, behind its PLACE and ahead of the other one's NULL and PLACE", COURT, "ints 0: 0 5 -1", DREAMS,
@@ -145,7 +147,8 @@ public final class EdgesOfFittingTest {
     }
 
     private static void beganThatFits() {
-        edges.of(29, "NONE: by no DREAM it is so", COURT, HUMS, "ints 1: 11 7 7", "began(0, 0, 0, 1, 0, 3) = 0", "began(1, 0, 0, 1, 0, 3) = NONE",
+        edges.of(29, "NONE: by no DREAM it is so", COURT, HUMS, "ints 1: 11 7 7", "began(0, 0, 0, 1, 0, 3) = 0",
+            "began(1, 0, 0, 1, 0, 3) = NONE",
             "status() = 0");
         edges.of(29, "nothing dreamt may be the least", SMALL, "ints 0: 0", "ints 1: 2", "began(0, 0, 0, 1, 0, 1) = 2",
             "began(1, 0, 0, 1, 0, 1) = 0");
@@ -157,7 +160,8 @@ public final class EdgesOfFittingTest {
             "began(1, 0, 0, 1, 0, 1) = 7", "began(0, 0, 0, 1, 1, 1) = 0", "began(1, 0, 0, 1, 1, 1) = NONE");
         edges.of(29, "whatever is dreamt now", LEFT, "ints 0: 0", "ints 1: 6", "began(1, 0, 0, 1, 0, 1) = 6", "forget(0) = 0",
             "began(1, 0, 0, 1, 0, 1) = 6");
-        edges.of(29, "the same ROW tells both", LEFT, "ints 0: 1 1", "began(0, 0, 0, 0, 1, 1) = 0", "ints 0: 1 2", "began(0, 0, 0, 0, 1, 1) = 2",
+        edges.of(29, "the same ROW tells both", LEFT, "ints 0: 1 1", "began(0, 0, 0, 0, 1, 1) = 0", "ints 0: 1 2",
+            "began(0, 0, 0, 0, 1, 1) = 2",
             "ints 0: 0", "began(1, 0, 0, 0, 0, 1) = 0");
         edges.of(29, "four DREAMS by cheese", "court j3,0,1;d0;c2,0; = 1", "ints 0: 0", "ints 1: 7", "began(0, 0, 0, 1, 0, 1) = 4",
             "began(1, 0, 0, 1, 0, 1) = 2");
@@ -216,8 +220,10 @@ public final class EdgesOfFittingTest {
         edges.of(31, "lowest terms, of all 8 THINGS", court, "gone(0, 1, 0) = 99", "gone(0, 1, 1) = 1000", "gone(0, 3, 0) = 273",
             "gone(0, 3, 1) = 1000", "gone(0, 5, 0) = 3", "gone(0, 5, 1) = 8", "gone(0, 9, 0) = 171", "gone(0, 9, 1) = 1000",
             "gone(0, 2, 0) = 24", "gone(0, 2, 1) = 125");
-        edges.of(31, "1 is 1 by 1, of all 8 THINGS", "court j8,0,1;d0,1,2,3,4,5,6;t1,1;v0,7,1; = 1", "gone(0, 0, 0) = 1", "gone(0, 0, 1) = 1",
-            "gone(0, 3, 0) = 1", "gone(0, 3, 1) = 1", "gone(0, 10, 0) = 1", "gone(0, 10, 1) = 1");
+        edges.of(31, "1 is 1 by 1, of all 8 THINGS", "court j8,0,1;d0,1,2,3,4,5,6;t1,1;v0,7,1; = 1", "gone(0, 0, 0) = 1",
+            "gone(0, 0, 1) = 1",
+            "gone(0, 3, 0) = 1", "gone(0, 3, 1) = 1", "gone(0, 10, 0) = 1", "gone(0, 10, 1) = 1", "gone(0, 11, 0) = BAD",
+            "gone(0, -1, 0) = BAD");
     }
 
     private static void goneByWhatIsDreamt() {
@@ -236,7 +242,8 @@ public final class EdgesOfFittingTest {
     private static void drawnOfNumbers() {
         edges.of(32, "STATE: no COURT, ahead of BAD", "drawn(0, 1, 0) = STATE", "drawn(-1, 1, 0) = STATE", "drawn(61, 1, 0) = STATE",
             "drawn(0, 0, 0) = STATE", "drawn(0, 1000000, 0) = STATE", "drawn(0, 1, 2) = STATE");
-        edges.of(32, "n is 0 to 60", TUNES, "drawn(0, 1, 1) = 128", "drawn(60, 1, 1) = 191", "drawn(-1, 1, 1) = BAD", "drawn(61, 1, 1) = BAD",
+        edges.of(32, "n is 0 to 60", TUNES, "drawn(0, 1, 1) = 128", "drawn(60, 1, 1) = 191", "drawn(-1, 1, 1) = BAD",
+            "drawn(61, 1, 1) = BAD",
             "drawn(MOST, 1, 1) = BAD", "drawn(LEAST, 1, 1) = BAD");
         edges.of(32, "a SEED is 1 to 999999", TUNES, "drawn(1, 1, 1) = 130", "drawn(1, 999999, 1) = 132", "drawn(1, 0, 1) = BAD",
             "drawn(1, 1000000, 1) = BAD", "drawn(1, -1, 1) = BAD", "drawn(1, MOST, 1) = BAD", "drawn(1, LEAST, 1) = BAD",
@@ -267,7 +274,8 @@ public final class EdgesOfFittingTest {
             "drawn(7, 1, 0) = 1", "drawn(8, 1, 1) = 5");
         edges.of(32, "a CASE that is not OPEN now is not HEARD", "court j3,1,1;d0;t2,0;v0,1,0; = 1", "hear(0) = 1", "drawn(5, 1, 1) = 5",
             "drawn(6, 1, 1) = 5", "drawn(6, 1, 0) = 1");
-        edges.of(32, "a CASE that stays OPEN is HEARD again", "court j3,1,1;d1;t2,0;v0,0,2; = 1", "drawn(5, 1, 1) = 6", "drawn(6, 1, 0) = 1",
+        edges.of(32, "a CASE that stays OPEN is HEARD again", "court j3,1,1;d1;t2,0;v0,0,2; = 1", "drawn(5, 1, 1) = 6",
+            "drawn(6, 1, 0) = 1",
             "court j3,0,1;d1;r0,1;v0,0,2; = 1", "drawn(6, 1, 0) = 0", "drawn(7, 1, 0) = 0", "drawn(7, 1, 1) = 0");
         edges.of(32, "GUILTY ones are not FREE", "court j3,1,1;d0;t2,0;v0,0,1; = 1", "drawn(60, 1, 0) = 0", "drawn(6, 1, 1) = 1");
         edges.of(32, "HUMS are hummed whatever the NIGHT, and nothing changes", "court j8,0,1;d7;t0,0;t1,0;t2,0;t3,0;t4,0;t5,0; = 6",
@@ -282,7 +290,8 @@ public final class EdgesOfFittingTest {
             "restore(0) = STATE");
         edges.of(34, "IMAGES are 0 and 1", COURT, "image(0) = 1", "image(1) = 1", "restore(0) = 1", "restore(1) = 1", "restore(2) = BAD",
             "restore(-1) = BAD", "restore(MOST) = BAD", "restore(LEAST) = BAD");
-        edges.of(34, "STATE: none was kept, behind BAD", "restore(0) = STATE", "restore(1) = STATE", "restore(2) = BAD", "restore(-1) = BAD",
+        edges.of(34, "STATE: none was kept, behind BAD", "restore(0) = STATE", "restore(1) = STATE", "restore(2) = BAD",
+            "restore(-1) = BAD",
             COURT, "restore(0) = STATE", "restore(1) = STATE");
         edges.of(34, "STATE: the other one was kept", COURT, "image(0) = 1", "restore(1) = STATE", "image(1) = 1", "restore(1) = 1", SMALL,
             "restore(0) = 1", "count(2) = 5");

@@ -90,6 +90,11 @@ public final class EdgesOfForetellingTest {
         edges.of(19, "nothing dreamt is a DREAM, too", "court j3,0,1;d0;r0,0;t1,0; = 2", "dreams(1, 0) = 2", "dreams(1, 3) = 0",
             "dreams(1, 1) = 0", "dreams(1, 4) = 3", "forget(0) = 0", "dreams(0, 0) = 1", "dreams(0, 1) = 0", "dreams(0, 2) = 0",
             "dreams(0, 3) = 0", "dreams(0, 4) = 0");
+        edges.of(19, "HUMS lead on from nothing dreamt", "court j3,0,1;d0;r0,0;t1,0; = 2", "dreams(2, 0) = 3", "dreams(2, 3) = 0",
+            "dreams(2, 4) = 3", "forget(0) = 0", "dreams(1, 0) = 2", "dreams(1, 2) = 2", "dreams(1, 4) = 2");
+        edges.of(19, "each of these is asked by itself", COURT, "dreams(1, 1) = 0", "dreams(0, 2) = 9", "dreams(1, 3) = 5",
+            "dreams(0, 4) = 9",
+            "dreams(1, 2) = 47", "dreams(0, 1) = 9", "dreams(1, 4) = 41", "dreams(0, 3) = 9", "dreams(1, 0) = 5", "dreams(0, 0) = 1");
         edges.of(19, "all 8 THINGS", "court j8,0,1;d0,1,2,3,4,5,6,7;t0,0; = 1", "dreams(8, 0) = 1", "dreams(8, 1) = 255",
             "dreams(8, 2) = 255", "dreams(8, 3) = 255", "dreams(8, 4) = 255");
     }
@@ -114,7 +119,8 @@ public final class EdgesOfForetellingTest {
         edges.of(20, "none told: there already", COURT, "least(0, 0, -1) = 0", "least(0, 0, 0) = NONE");
         edges.of(20, "all of the ones, none of the others", COURT, "least(9, 54, -1) = 0", "least(1, 8, -1) = 1", "least(1, 8, 0) = 4",
             "least(0, 9, -1) = 2", "least(0, 9, 0) = 3", "least(0, 9, 1) = 4");
-        edges.of(20, "NONE: both to be there and not", COURT, "least(1, 1, -1) = NONE", "least(1, 1, 0) = NONE", "least(63, 63, -1) = NONE");
+        edges.of(20, "NONE: both to be there and not", COURT, "least(1, 1, -1) = NONE", "least(1, 1, 0) = NONE",
+            "least(63, 63, -1) = NONE");
         edges.of(20, "NONE: no HUMS lead there", SMALL, "least(4, 0, -1) = NONE", "least(4, 0, 0) = NONE", "least(0, 1, -1) = NONE");
     }
 
@@ -156,7 +162,8 @@ public final class EdgesOfForetellingTest {
         edges.of(21, "k is -1 at least", COURT, "save(1, -1) = 2", "save(1, -2) = BAD", "save(1, LEAST) = BAD", "save(1, 0) = 0",
             "save(1, 1) = 2", "save(1, 2) = NONE", "save(1, MOST) = NONE");
         edges.of(21, "no HUM is needed: no k-th", COURT, "save(2, -1) = 0", "save(2, 0) = NONE");
-        edges.of(21, "NONE: never FREE", "court j3,0,1;d0;t1,0;v0,0,1; = 1", "save(0, -1) = NONE", "save(0, 0) = NONE", "save(0, -2) = BAD");
+        edges.of(21, "NONE: never FREE", "court j3,0,1;d0;t1,0;v0,0,1; = 1", "save(0, -1) = NONE", "save(0, 0) = NONE",
+            "save(0, -2) = BAD");
     }
 
     private static void saveByTheFewest() {
@@ -204,6 +211,8 @@ public final class EdgesOfForetellingTest {
     }
 
     private static void orderOfSeveral() {
+        edges.of(23, "none is FREE: all GUILTY, or all OPEN", "court j3,3,1;d0;r2,2;v0,0,1;v0,0,1; = 1", "order(-1) = 0", "order(-2) = 2",
+            "order(0) = 0", "order(1) = 1", "forget(0) = 0", "order(-1) = 0", "order(-2) = 0", "order(0) = 0", "order(1) = 1");
         edges.of(23, "each once: one that stays OPEN is not HEARD again", "court j3,3,1;d0;t1,0;v0,2,0; = 1", "forget(0) = 0",
             "order(-1) = 0", "order(0) = 0", "order(1) = NONE");
         // 1, HEARD first, takes 0, by which 0 loses, and brings 2, by which it wins itself.
@@ -211,8 +220,9 @@ public final class EdgesOfForetellingTest {
             "order(0) = 1", "order(1) = 0");
         edges.of(23, "of several fewest GUILTY", "court j4,4,1;d0;r3,3;f2,0;v0,0,1;v1,3,2; = 2", "order(-1) = 1", "order(-2) = 0",
             "order(0) = 1", "order(1) = 0");
-        edges.of(23, "most FREE, though more are GUILTY", "court j6,6,1;d0;r1,0;t3,3;r5,5;v2,3,0;v0,4,2;v1,3,1; = 3", "order(-1) = 1",
-            "order(-2) = 1", "order(0) = 0", "order(1) = 1", "order(2) = 2");
+        // 2 first, and none is GUILTY, but none is FREE either.
+        edges.of(23, "most FREE, though more are GUILTY", "court j4,4,1;d2;s0,2;f3,2;v0,2,0;v0,2,0;v1,0,2; = 2", "order(-1) = 1",
+            "order(-2) = 2", "order(0) = 0", "order(1) = 2", "order(2) = 1");
         edges.of(23, "of several the first, by numbers", "court j4,4,1;d0;r3,3;v0,1,0;v0,1,0;v0,1,0; = 1", "order(-1) = 3", "order(0) = 0",
             "order(1) = 1", "order(2) = 2");
         edges.of(23, "the DREAM wears between", "court j4,1,1;d0,1;r3,3;v0,2,0;v0,2,1; = 1", "order(-1) = 2", "order(0) = 1",
@@ -234,12 +244,16 @@ public final class EdgesOfForetellingTest {
         edges.of(24, "of several the first, GUILTY ones do not matter", "court j4,4,1;d0;r3,3;f2,0;v0,0,1;v1,3,2; = 2", "order(0) = 1",
             "first() = 0");
         edges.of(24, "the one by which most are FREE, by the best order of the others", COURT, "order(-1) = 2", "first() = 1");
+        // 0, 1, 2 lets 2 be FREE, as 1 first does; 0, 2, 1 but 1.
+        edges.of(24, "the best order of the others counts, not the last that was tried",
+            "court j5,3,1;d0;f2,0;c1,3;v1,0,4;v0,4,2;v1,0,2; = 2", "order(-1) = 2", "first() = 0");
         edges.of(24, "the last of five", "court j6,6,1;d0;r5,5;f1,0;v0,0,1;v0,0,1;v0,0,1;v0,0,1;v1,5,1; = 2", "order(-1) = 5",
             "first() = 4");
     }
 
     private static void casesThatClash() {
-        edges.of(25, "STATE: no COURT, ahead of BAD", "clashes(0) = STATE", "clashes(1) = STATE", "clashes(2) = STATE", "clashes(-1) = STATE");
+        edges.of(25, "STATE: no COURT, ahead of BAD", "clashes(0) = STATE", "clashes(1) = STATE", "clashes(2) = STATE",
+            "clashes(-1) = STATE");
         edges.of(25, "what is 0 or 1", COURT, "clashes(0) = 1", "clashes(1) = 2", "clashes(2) = BAD", "clashes(-1) = BAD",
             "clashes(MOST) = BAD", "clashes(LEAST) = BAD");
         edges.of(25, "no CASE, and one", SMALL, "clashes(0) = 0", "clashes(1) = NONE", "court j3,0,1;d0;t0,0;v0,0,1; = 1", "clashes(0) = 0",

@@ -107,7 +107,7 @@ public final class EdgesOfRowsTest {
     }
 
     private static void copiesOfNone() {
-        edges.of(4, "none, at the first place, and behind the last", "row(0, 2, 3) = 3", "row(1, 2, 2) = 2",
+        edges.of(4, "none, at the first place, and behind the last", "ints 0: 1 2 3", "ints 1: 4 5",
             "copy(0, 0, 1, 0, 0) = 0", "copy(0, 3, 1, 2, 0) = 0", "copy(0, 4, 1, 2, 0) = PLACE", "copy(0, 3, 1, 3, 0) = PLACE",
             "copy(0, -1, 1, 0, 0) = PLACE", "copy(0, 0, 1, -1, 0) = PLACE");
         edges.of(4, "none, of ROWS of none", "row(0, 1, 0) = 0", "row(1, 1, 0) = 0", "copy(0, 0, 1, 0, 0) = 0",
@@ -133,15 +133,15 @@ public final class EdgesOfRowsTest {
             "copy(-1, -1, 0, -1, -1) = BAD");
         edges.of(4, "NULL comes ahead of STORE and PLACE", "row(0, 0, 1) = 1", "copy(0, -1, 1, 0, 1) = NULL",
             "copy(1, 0, 0, 9, 1) = NULL", "copy(1, 0, 2, 0, -1) = NULL");
-        edges.of(4, "STORE: ROWS of two LANES, any two", "row(0, 0, 1) = 1", "row(1, 1, 1) = 1", "row(2, 2, 1) = 1",
+        edges.of(4, "STORE: ROWS of two LANES, any two", "bytes 0: 1", "shorts 1: 2", "ints 2: 3",
             "copy(0, 0, 1, 0, 1) = STORE", "copy(0, 0, 2, 0, 1) = STORE", "copy(1, 0, 0, 0, 1) = STORE",
             "copy(1, 0, 2, 0, 1) = STORE", "copy(2, 0, 0, 0, 1) = STORE", "copy(2, 0, 1, 0, 1) = STORE");
-        edges.of(4, "STORE comes ahead of PLACE", "row(0, 0, 1) = 1", "row(1, 1, 1) = 1", "copy(0, -1, 1, 0, 1) = STORE",
+        edges.of(4, "STORE comes ahead of PLACE", "bytes 0: 1", "shorts 1: 2", "copy(0, -1, 1, 0, 1) = STORE",
             "copy(0, 0, 1, 5, 1) = STORE", "copy(0, 0, 1, 0, -1) = STORE");
     }
 
     private static void copiesBeyondAnEnd() {
-        String[] rows = {"row(0, 2, 4) = 4", "row(1, 2, 3) = 3"};
+        String[] rows = {"ints 0: 11 12 13 14", "ints 1: 21 22 23"};
         edges.of(4, "PLACE: i below 0", rows[0], rows[1], "copy(0, 0, 1, 0, 1) = 1", "copy(0, -1, 1, 0, 1) = PLACE",
             "copy(0, LEAST, 1, 0, 1) = PLACE");
         edges.of(4, "PLACE: j below 0", rows[0], rows[1], "copy(0, 0, 1, -1, 1) = PLACE", "copy(0, 0, 1, LEAST, 1) = PLACE");

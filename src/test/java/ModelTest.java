@@ -1,5 +1,4 @@
 import java.lang.reflect.Method;
-import java.lang.reflect.Modifier;
 import java.util.ArrayList;
 import java.util.HashMap;
 import java.util.List;
@@ -12,8 +11,8 @@ public final class ModelTest {
     private static final String[] OFTEN = {"hum", "hear", "hear", "appeal", "forget", "learn", "undo", "save", "least",
         "order", "first", "who", "began", "snored", "gone", "drawn", "image", "restore", "ask", "as", "can", "dreams"};
 
-    private final Map<String, Method> program = methodsOf(SleepingJudge.class);
-    private final Map<String, Method> model = methodsOf(NaiveJudge.class);
+    private final Map<String, Method> program = Check.methodsOf(SleepingJudge.class);
+    private final Map<String, Method> model = Check.methodsOf(NaiveJudge.class);
     private final List<String> names = new ArrayList<>(program.keySet());
     private final Check check = new Check();
     private final Map<String, Integer> answered = new HashMap<>();
@@ -31,16 +30,6 @@ public final class ModelTest {
         }
         test.tellCalls();
         test.check.end();
-    }
-
-    private static Map<String, Method> methodsOf(Class<?> type) {
-        Map<String, Method> all = new HashMap<>();
-        for (Method method : type.getDeclaredMethods()) {
-            if (Modifier.isPublic(method.getModifiers())) {
-                all.put(method.getName(), method);
-            }
-        }
-        return all;
     }
 
     private void oneRun(int seed) throws Exception {
