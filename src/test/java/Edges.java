@@ -69,11 +69,17 @@ final class Edges {
         }
     }
 
+    /** The one promise of which sentences are looked at (BrokenPromisesTest tells it); 0: all are. */
+    private static int alone = 0;
+
     private final Check check = new Check();
     private final Set<Integer> promised = new TreeSet<>();
 
     void of(int promise, String sentence, String... lines) {
         promised.add(promise);
+        if (alone != 0 && alone != promise) {
+            return;
+        }
         String name = "promise " + promise + ", " + sentence + ": ";
         List<Call> calls = new ArrayList<>();
         for (String line : lines) {

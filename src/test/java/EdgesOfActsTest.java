@@ -281,6 +281,9 @@ public final class EdgesOfActsTest {
             "stand(4) = 3", "appeal(0) = 0", "stand(4) = 3", "ofCase(0, 3) = 3", "ofCase(1, 3) = 2");
         edges.of(17, "the fifth CASE is bit 4", "court j3,0,1;d0;t0,0;v0,1,0;v0,1,0;v0,1,0;v0,1,0;v0,1,0; = 1", "stand(2) = 31",
             "hear(4) = 1", "stand(2) = 15", "stand(3) = 16");
+        edges.of(17, "what was hummed in this NIGHT, whatever in others", COURT, "hum(0) = 11", "stand(1) = 1", "hum(0) = 11",
+            "stand(1) = 2", "hear(0) = 2", "stand(0) = 3", "stand(1) = 0", "hear(1) = 0", "stand(0) = 2", "stand(1) = 0",
+            "hum(0) = 2", "stand(1) = 1");
         edges.of(17, "no CASES", "court j3,0,1;d2;r0,0; = 1", "stand(0) = 4", "stand(1) = 0", "stand(2) = 0", "stand(3) = 0",
             "stand(4) = 0");
     }

@@ -20,6 +20,7 @@ public final class EdgesOfAskingTest {
         countsWithoutACourt();
         statusOfCallsWithRows();
         statusOfAs();
+        statusOfOtherCalls();
         edges.end(35, 36, 37, 38, 39, 40);
     }
 
@@ -58,6 +59,8 @@ public final class EdgesOfAskingTest {
             "ask(0, LEAST) = BAD");
         edges.of(37, "HUMS are those told", COURT, "ask(4, 0) = -196", "ask(5, 0) = BAD", "ask(-1, 0) = BAD", "ask(MOST, 1) = BAD",
             "ask(LEAST, 1) = BAD");
+        edges.of(37, "THE TRACE is empty ahead of it", COURT, "ask(1, 0) = -11", "ask(3, 0) = -100", "trace(0) = 13", "trace(1) = 10",
+            "trace(2) = NONE", "ask(1, 1) = 6", "trace(0) = 24", "trace(2) = 20", "trace(3) = NONE");
         edges.of(37, "no COURT", "ask(0, 0) = BAD", "ask(0, 1) = BAD", "trace(0) = NONE");
     }
 
@@ -118,6 +121,8 @@ public final class EdgesOfAskingTest {
         edges.of(39, "what is 0 to 7", COURT, "ints 3: 1", "hear(1) = 0", "hum(0) = 10", "tape j4", "count(0) = 1", "count(1) = 6",
             "count(2) = 5", "count(3) = 3", "count(4) = 1", "count(5) = 10", "count(6) = 2", "count(7) = 2", "count(8) = BAD",
             "count(-1) = BAD", "count(MOST) = BAD", "count(LEAST) = BAD");
+        edges.of(39, "NIGHT, whatever was hummed in it", COURT, "hum(0) = 11", "hum(0) = 11", "count(4) = 0", "hear(1) = 0", "hear(1) = 0",
+            "count(4) = 2", "count(5) = 10", "count(6) = 4", "hum(3) = 10", "count(4) = 2", "undo() = 4", "undo() = 3", "count(4) = 1");
         edges.of(39, "the least COURT", SMALL, "count(0) = 0", "count(1) = 3", "count(2) = 1", "count(3) = 0", "count(4) = 0",
             "count(5) = 1",
             "count(6) = 0", "count(7) = 0");
@@ -159,5 +164,24 @@ public final class EdgesOfAskingTest {
             "status() = 1", "kind(0) = 1", "ask(0, 0) = 3", "dreams(0, 0) = 1", "least(0, 0, -1) = 0", "order(-1) = 0", "first() = NONE",
             "same(0) = 0", "clashes(0) = 0", "drawn(1, 1, 0) = 0", "status() = 1");
         edges.of(40, "it outlasts another COURT, and asks change it not", "drop(0) = NULL", COURT, "status() = 1", "status() = 1");
+    }
+
+    /** Each call without a ROW, refused and answered, behind a FINDING. */
+    private static void statusOfOtherCalls() {
+        String[] refused = {"feed(256) = BAD", "court() = -1000100", "undo() = STATE", "hum(5) = BAD", "hear(3) = BAD", "appeal(3) = BAD",
+            "appeal(0) = STATE", "forget(6) = BAD", "forget(1) = STATE", "learn(5, 0) = BAD", "ofHum(5, 0) = BAD", "ofCase(3, 0) = BAD",
+            "stand(5) = BAD", "dreams(9, 0) = BAD", "least(64, 0, -1) = BAD", "save(3, -1) = BAD", "can(3, 0) = BAD", "order(-3) = BAD",
+            "clashes(2) = BAD", "same(2) = BAD", "gone(3, 0, 0) = BAD", "drawn(61, 1, 0) = BAD", "image(2) = BAD", "restore(2) = BAD",
+            "restore(0) = STATE", "kind(5) = BAD", "ask(5, 0) = BAD", "count(8) = BAD"};
+        String[] answered = {"feed(59) = 1", "fault() = 0", "hum(0) = 11", "hear(2) = 1", "forget(0) = 8", "learn(0, 1) = 1",
+            "ofHum(0, 0) = 1", "ofCase(0, 0) = 0", "stand(0) = 9", "dreams(0, 0) = 1", "least(0, 0, -1) = 0", "save(2, -1) = 0",
+            "can(2, 0) = 2", "order(5) = NONE", "first() = 1", "clashes(0) = 1", "deaf() = 4", "same(0) = 0", "gone(0, 0, 0) = 0",
+            "drawn(0, 1, 0) = 0", "image(0) = 1", "kind(0) = 1", "ask(0, 0) = 3", "trace(0) = NONE", "count(0) = 0"};
+        for (String call : refused) {
+            edges.of(40, "what is refused leaves it, as it has no ROW", COURT, "drop(0) = NULL", call, "status() = 1");
+        }
+        for (String call : answered) {
+            edges.of(40, "what is answered leaves it, as it has no ROW", COURT, "drop(0) = NULL", call, "status() = 1");
+        }
     }
 }

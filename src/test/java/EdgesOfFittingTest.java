@@ -277,6 +277,8 @@ public final class EdgesOfFittingTest {
         edges.of(32, "a CASE that stays OPEN is HEARD again", "court j3,1,1;d1;t2,0;v0,0,2; = 1", "drawn(5, 1, 1) = 6",
             "drawn(6, 1, 0) = 1",
             "court j3,0,1;d1;r0,1;v0,0,2; = 1", "drawn(6, 1, 0) = 0", "drawn(7, 1, 0) = 0", "drawn(7, 1, 1) = 0");
+        edges.of(32, "a GUILTY CASE, for good or not, is not HEARD", "court j3,1,1;d0;t2,0;v0,0,1; = 1", "hear(0) = 2",
+            "drawn(5, 1, 1) = 5", "drawn(6, 1, 1) = 5", "drawn(6, 1, 0) = 0", "appeal(0) = 0", "drawn(6, 1, 1) = 5", "drawn(6, 1, 0) = 0");
         edges.of(32, "GUILTY ones are not FREE", "court j3,1,1;d0;t2,0;v0,0,1; = 1", "drawn(60, 1, 0) = 0", "drawn(6, 1, 1) = 1");
         edges.of(32, "HUMS are hummed whatever the NIGHT, and nothing changes", "court j8,0,1;d7;t0,0;t1,0;t2,0;t3,0;t4,0;t5,0; = 6",
             "hum(0) = 129", "hum(1) = FULL", "drawn(7, 1, 1) = 183", "stand(0) = 129", "stand(1) = 1", "count(6) = 1");
@@ -313,6 +315,9 @@ public final class EdgesOfFittingTest {
             "restore(1) = 1", "stand(0) = 11");
         edges.of(34, "an IMAGE can be restored again, whatever is done between", COURT, "image(0) = 1", "restore(0) = 1", "hum(0) = 11",
             "learn(3, 4) = 0", "restore(0) = 1", "stand(0) = 9", "ofHum(3, 0) = 0", "stand(1) = 0");
+        edges.of(34, "NIGHT and CASES are as they were kept", COURT, "image(0) = 1", "hear(2) = 1", "image(1) = 1", "hear(0) = 1",
+            "hum(0) = 3", "restore(0) = 1", "stand(1) = 0", "stand(2) = 7", "stand(3) = 0", "ofCase(2, 3) = 0", "count(4) = 0",
+            "restore(1) = 1", "stand(1) = 0", "stand(2) = 3", "stand(3) = 4", "count(4) = 1");
         edges.of(34, "the law of another COURT is restored: THINGS, WEARS, HUMS of a NIGHT", "court j5,1,2;d0,1,4;r3,3;v0,3,0; = 1",
             "image(0) = 1", "court j8,8,9;d7;t0,0;t1,1; = 2", "restore(0) = 1", "count(1) = 5", "count(2) = 1", "count(3) = 1",
             "forget(5) = BAD", "hum(1) = BAD", "hum(0) = 19", "hum(0) = 19", "hum(0) = FULL", "hear(0) = 1", "stand(0) = 1");

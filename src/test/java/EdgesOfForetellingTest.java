@@ -289,7 +289,7 @@ public final class EdgesOfForetellingTest {
         edges.of(27, "of unlike KINDS: steps and feathers of alike THINGS", "court j3,0,1;d0;s1,1;f2,2; = 2", "same(0) = 1", "same(1) = 1");
         edges.of(27, "alike in this DREAM, but not in all", "court j3,0,1;d0;t1,0;s1,0;r1,2;s2,2; = 4", "deaf() = 12", "same(0) = 0",
             "same(1) = NONE");
-        edges.of(27, "alike in all but the greatest DREAM of 8, or the least", "court j3,0,1;d0;s1,0;s1,2;c1,0;t1,1; = 4", "same(0) = 0");
+        edges.of(27, "alike in many DREAMS, but not in all", "court j3,0,1;d0;s1,0;s1,2;c1,0;t1,1; = 4", "same(0) = 0");
         edges.of(27, "by what is learnt", "court j3,0,1;d0;t1,0;t2,0; = 2", "same(0) = 0", "learn(1, 1) = 2", "same(0) = 1", "same(1) = 1",
             "undo() = 0", "same(1) = NONE");
         edges.of(27, "THING of rain is nothing to it, OTHER is", "court j3,0,1;d0;r0,1;r2,1;r0,2; = 3", "same(0) = 1", "same(1) = 1");

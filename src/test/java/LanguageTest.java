@@ -10,6 +10,8 @@ import java.util.Set;
 import java.util.TreeSet;
 import java.util.regex.Matcher;
 import java.util.regex.Pattern;
+import java.util.stream.Collectors;
+import java.util.stream.Stream;
 
 /** The public face, and those rules of LANGUAGE.md that can be seen from the class and from its text. */
 public final class LanguageTest {
@@ -23,6 +25,7 @@ public final class LanguageTest {
         "\\bthrow\\b", "\\btry\\b", "\\bcatch\\b", "\\bfinally\\b", "\\bsynchronized\\b", "\\bassert\\b", "->", "::",
         "\\bpackage\\b", "\\bprotected\\b", "\\bwhile *\\(true\\)", "for *\\(;;\\)", "Exact\\b", "\\bSystem\\.(?!arraycopy\\b)",
         "\\bThread\\b", "\\bRandom\\b", "\\bstatic *\\{", "\\bvar\\b", "\\bObject\\b", "\\btransient\\b", "\\bvolatile\\b"};
+    private static final Set<String> FACE_NAMES = Stream.of(FACE).map(one -> one.split(" ")[0]).collect(Collectors.toSet());
     private static final Check check = new Check();
 
     public static void main(String[] args) throws Exception {
@@ -45,21 +48,16 @@ public final class LanguageTest {
     private static void theFace() {
         Set<String> due = new TreeSet<>(List.of(FACE));
         Set<String> got = new TreeSet<>();
-        Set<String> hidden = new TreeSet<>();
         for (Method method : SleepingJudge.class.getDeclaredMethods()) {
             if (Modifier.isPublic(method.getModifiers())) {
                 got.add(method.getName() + " " + method.getParameterCount());
                 boolean wide = method.getName().equals("gone");
                 check.due("what " + method.getName() + " gives", method.getReturnType().getName(), wide ? "long" : "int");
             } else {
-                hidden.add(method.getName());
                 check.due(method.getName() + " is private", Modifier.isPrivate(method.getModifiers()) ? 1 : 0, 1);
             }
         }
         check.due("methods", got.toString(), due.toString());
-        for (String one : due) {
-            check.due("private " + one, hidden.contains(one.split(" ")[0]) ? 1 : 0, 0);
-        }
         check.due("constructors", SleepingJudge.class.getDeclaredConstructors().length, 1);
         Constructor<?> made = SleepingJudge.class.getDeclaredConstructors()[0];
         check.due("constructor", made.getParameterCount() + (Modifier.isPublic(made.getModifiers()) ? 0 : 1), 0);
@@ -91,6 +89,8 @@ public final class LanguageTest {
             check.due("fields of " + type, fields <= 20 ? 1 : 0, 1);
             for (Method method : type.getDeclaredMethods()) {
                 check.due("parameters of " + method, method.getParameterCount() <= 7 ? 1 : 0, 1);
+                boolean hidden = Modifier.isPrivate(method.getModifiers());
+                check.due("name of " + method, hidden && FACE_NAMES.contains(method.getName()) ? 1 : 0, 0);
             }
         }
     }
@@ -100,6 +100,11 @@ public final class LanguageTest {
         for (String forbidden : FORBIDDEN) {
             Matcher found = Pattern.compile(forbidden).matcher(code);
             check.due("text", found.find() ? found.group() : "", "");
+        }
+        // All that is made is made with the object, in a field, so that no run of calls can fill the room.
+        for (String line : code.split("\n")) {
+            boolean makes = Pattern.compile("\\bnew\\b|\\.clone\\(|copyOf|StringBuilder|ArrayList").matcher(line).find();
+            check.due(line, makes && !line.matches(" +(private )?final [^()]+ = .*") ? 1 : 0, 0);
         }
         Matcher imports = Pattern.compile("import +([^;]+);").matcher(code);
         while (imports.find()) {
